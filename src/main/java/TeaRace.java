@@ -2,14 +2,17 @@ import java.util.ArrayList;
 import java.util.Arrays;
 import java.util.List;
 
-/** A tea race over a sea of cells, with its logs, charters and market; the document's numbered promises say what each call answers. */
+/**
+ * A tea race over a sea of cells, with its logs, charters and market. What each call answers is promised
+ * by the document, ../shared/DOC.md.
+ */
 public final class TeaRace {
     public static final int BAD = -1, FULL = -2, FINDING = -3, STATE = -4, NONE = -9;
 
     private static final int NOTHING = 1, BEYOND = 2, UNLIKE = 3, NOUGHT = 4, SIZE = 5;
     private static final int CLIPPER = 1, STEAMER = 2, RACER = 3;
 
-    private static final int COLUMNS = 16, ROWS = 10, CELLS = 160, WAYS = 8, MONTHS = 12;
+    private static final int COLUMNS = 16, CELLS = 160, WAYS = 8, MONTHS = 12;
     private static final int HOURS_OF_MONTH = 720, HOURS_OF_DAY = 24, HOURS_OF_GATE = 6;
     private static final int STRAIGHT_NEED = 60, SLANTING_NEED = 85, STEAM = 8, CALM = 0;
     private static final int WIND_ADDED = 1000, HUNDRED = 100;
@@ -597,10 +600,7 @@ public final class TeaRace {
 
         /** The byte that was drawn, even where it is no wind. */
         int drawnAt(int month, int cell) {
-            if (outside(month, LAST_MONTH) || outside(cell, LAST_CELL)) {
-                return CALM;
-            }
-            return chartThere[month] ? charts[month][cell] : CALM;
+            return hasChart(month) && !outside(cell, LAST_CELL) ? charts[month][cell] : CALM;
         }
 
         void drawAt(int month, int cell, byte wind) {
@@ -619,8 +619,11 @@ public final class TeaRace {
         }
 
         int windIn(int month, int cell) {
-            int drawn = drawnAt(month, cell);
-            return drawn < CALM || drawn > MOST_WIND ? CALM : drawn;
+            if (outside(month, LAST_MONTH) || outside(cell, LAST_CELL) || !chartThere[month]) {
+                return CALM;
+            }
+            int drawn = charts[month][cell];
+            return outside(drawn, MOST_WIND) ? CALM : drawn;
         }
 
         /** The cell that lies next in a way; NONE where no ship can go. */

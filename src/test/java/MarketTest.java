@@ -9,6 +9,7 @@ public final class MarketTest {
         saleOfLikeEntries();
         saleAtMost();
         meanPrice();
+        meanPriceIsCut();
         asked();
         Check.close("MarketTest");
     }
@@ -166,6 +167,19 @@ public final class MarketTest {
         Check.due("meanPrice() is cut", x.meanPrice(), 8);
         Check.due("findings(4)", x.findings(4), 3);
         Check.due("asked() is told by sale() alone", x.asked(), 0);
+    }
+
+    /** 1 at 10 and 3 at 7 are 31, one less than four times 8. */
+    private static void meanPriceIsCut() {
+        TeaRace x = home(1, 3);
+        x.market(10, 3);
+        Check.due("meanPrice() of 31 by 4", x.meanPrice(), 7);
+        TeaRace y = home(2, 6);
+        y.market(10, 2);
+        Check.due("meanPrice() of 68 by 8", y.meanPrice(), 8);
+        TeaRace z = home(10, 0, 10);
+        z.market(9, 4);
+        Check.due("meanPrice() of 140 by 20", z.meanPrice(), 7);
     }
 
     private static void asked() {

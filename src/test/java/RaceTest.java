@@ -8,6 +8,7 @@ public final class RaceTest {
         landAhead();
         severalCellsInAnHour();
         severalCellsAreStopped();
+        windOfEachCell();
         waysAskedAnew();
         monthsGoBy();
         comingHome();
@@ -177,6 +178,31 @@ public final class RaceTest {
         Check.due("none HOME", y.run(100), 0);
         lies("it goes no more", y, 0, 35, 65);
         Check.due("HOUR of HOME", y.told(0, 4), 5);
+    }
+
+    /** Wind from the north with 5, 1, then bytes that are none such, in the cells that a ship goes through southward. */
+    private static void windOfEachCell() {
+        TeaRace x = new TeaRace();
+        x.home(159, 0);
+        x.chart(0);
+        x.wind(0, 7, 5);
+        x.wind(0, 23, 1);
+        x.wind(0, 39, 85);
+        x.wind(0, 55, -1);
+        x.ship(0, 7, 0);
+        Seas.steer(x, 0, 4);
+        // 10 an hour for 6 hours, then 2 an hour for 30
+        x.run(7);
+        lies("strength 5, then 1", x, 0, 23, 2);
+        x.run(28);
+        lies("strength 1", x, 0, 23, 58);
+        x.run(1);
+        lies("85 is calm", x, 0, 39, 0);
+        x.run(50);
+        lies("85 is calm still", x, 0, 39, 0);
+        x.wind(0, 39, 79);
+        x.run(40);
+        lies("79 drives across by 27, into a byte below 0", x, 0, 55, 21);
     }
 
     private static void waysAskedAnew() {

@@ -187,6 +187,10 @@ public final class SeaTest {
         Check.due("mean(4) is cut", x.mean(4), 8);
         Seas.blow(x, 4, 80);
         Check.due("mean(4) of none such", x.mean(4), 0);
+        Seas.blow(x, 4, 89);
+        Check.due("mean(4) of none such with a nine", x.mean(4), 0);
+        Seas.blow(x, 4, 127);
+        Check.due("mean(4) of the greatest bytes", x.mean(4), 0);
         Seas.blow(x, 4, -1);
         Check.due("mean(4) of bytes below 0", x.mean(4), 0);
         Seas.blow(x, 4, 31);
