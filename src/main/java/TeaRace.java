@@ -431,6 +431,10 @@ public final class TeaRace {
         return Math.floorMod(hour / HOURS_OF_MONTH, MONTHS);
     }
 
+    private static int nextMonthFrom(int hour) {
+        return HOURS_OF_MONTH * (hour / HOURS_OF_MONTH + 1);
+    }
+
     /** The first hour from one on in which the dock is open. */
     private int entryFrom(int hour) {
         int sinceOpening = Math.floorMod(hour - gateHour, HOURS_OF_DAY);
@@ -440,9 +444,9 @@ public final class TeaRace {
     // ---- the going of a ship
 
     private void sail(Ship ship, int end) {
-        for (int month = hour / HOURS_OF_MONTH; HOURS_OF_MONTH * month < end && !ship.isHome(); month++) {
-            int begin = Math.max(hour, HOURS_OF_MONTH * month);
-            sailInMonth(ship, begin, Math.min(end, HOURS_OF_MONTH * (month + 1)));
+        // begin, not its month, is held against the end: where no hour goes by, none begins and no way is asked
+        for (int begin = hour; begin < end && !ship.isHome(); begin = nextMonthFrom(begin)) {
+            sailInMonth(ship, begin, Math.min(end, nextMonthFrom(begin)));
         }
     }
 

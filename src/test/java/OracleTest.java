@@ -38,6 +38,16 @@ public final class OracleTest {
         return drawn(0, 1) == 0 ? EXTREMES[drawn(0, EXTREMES.length - 1)] : drawn(0, 1) == 0 ? least - 1 : most + 1;
     }
 
+    /** Hours of a run: none or few, or to about a month's end, as ways and winds change there; or as many as there can be. */
+    private static int hoursDrawn() {
+        switch (drawn(0, 7)) {
+            case 0: return drawn(0, 2);
+            case 1: return Math.max(0, 720 - o.count(1) % 720 + drawn(-1, 1));
+            case 2: return near(0, 2000);
+            default: return near(0, 150);
+        }
+    }
+
     private static int windDrawn() {
         return drawn(0, 9) == 0 ? drawn(-300, 300) : near(0, 79);
     }
@@ -105,7 +115,7 @@ public final class OracleTest {
         int way = near(0, 7);
         int from = near(0, 7);
         int w = near(0, 9);
-        int hours = near(0, drawn(0, 5) == 0 ? 2000 : 150);
+        int hours = hoursDrawn();
         int start = near(0, drawn(0, 1) == 0 ? 98000 : 3000);
         int k = near(0, 3);
         switch (kind) {

@@ -10,6 +10,7 @@ public final class RaceTest {
         severalCellsAreStopped();
         windOfEachCell();
         waysAskedAnew();
+        runOfNoHours();
         monthsGoBy();
         comingHome();
         notComingHome();
@@ -231,6 +232,36 @@ public final class RaceTest {
         Check.due("an order is asked at an hour's begin", x.told(0, 3), 0);
         x.run(1);
         Check.due("asked", x.told(0, 3), 6);
+    }
+
+    /** In a run of 0 hours no hour begins: no way is asked, whatever the hour and whatever was told since the last one. */
+    private static void runOfNoHours() {
+        int[] runsBefore = {0, 1, 719, 720, 721, 1439, 1440};
+        for (int i = 0; i < runsBefore.length; i++) {
+            String when = "run(0) at hour " + runsBefore[i];
+            TeaRace x = new TeaRace();
+            x.home(159, 0);
+            x.ship(0, 34, 0);
+            Seas.blow(x, 0, 25);
+            Seas.blow(x, 1, 25);
+            Seas.blow(x, 2, 25);
+            x.order(0, 0, 15, 0, 9, 6, 3);
+            x.order(0, 0, 15, 0, 9, 0, 2);
+            x.run(runsBefore[i]);
+            int way = runsBefore[i] == 0 ? 0 : 2;
+            Check.due(when + ": way before", x.told(0, 3), way);
+            Seas.blow(x, 0, 69);
+            Seas.blow(x, 1, 69);
+            Seas.blow(x, 2, 69);
+            long told = x.digest();
+            Check.due(when, x.run(0), 0);
+            Check.due(when + ": way", x.told(0, 3), way);
+            Check.due(when + ": digest()", x.digest(), told);
+            lies(when, x, 0, 34, 0);
+            x.run(1);
+            Check.due(when + ", then run(1): way", x.told(0, 3), 3);
+            lies(when + ", then run(1)", x, 0, 34, 27);
+        }
     }
 
     private static void monthsGoBy() {
