@@ -431,8 +431,9 @@ public final class TeaRace {
         return Math.floorMod(hour / HOURS_OF_MONTH, MONTHS);
     }
 
-    private static int nextMonthFrom(int hour) {
-        return HOURS_OF_MONTH * (hour / HOURS_OF_MONTH + 1);
+    /** How many hours there are from one on until the next month: 1 at least. */
+    private static int hoursLeftOfMonth(int hour) {
+        return HOURS_OF_MONTH - Math.floorMod(hour, HOURS_OF_MONTH);
     }
 
     /** The first hour from one on in which the dock is open. */
@@ -444,9 +445,9 @@ public final class TeaRace {
     // ---- the going of a ship
 
     private void sail(Ship ship, int end) {
-        // begin, not its month, is held against the end: where no hour goes by, none begins and no way is asked
-        for (int begin = hour; begin < end && !ship.isHome(); begin = nextMonthFrom(begin)) {
-            sailInMonth(ship, begin, Math.min(end, nextMonthFrom(begin)));
+        // where no hour goes by none begins, so there is no stretch of hours, and no way is asked
+        for (int begin = hour; begin < end && !ship.isHome(); begin += hoursLeftOfMonth(begin)) {
+            sailInMonth(ship, begin, Math.min(end, begin + hoursLeftOfMonth(begin)));
         }
     }
 
@@ -843,15 +844,13 @@ public final class TeaRace {
         /** The hour at whose begin a ship that leaves a cell is in the next one; beyond the last one if it is not by then. */
         private static int comingHour(Sea sea, Ship ship, int cell, int way, int leaving, int last) {
             int left = needOf(way);
-            int at = leaving;
-            for (int month = leaving / HOURS_OF_MONTH; HOURS_OF_MONTH * month < last; month++) {
-                int end = HOURS_OF_MONTH * (month + 1);
-                int speed = ship.speedIn(way, sea.windIn(month % MONTHS, cell));
-                if (speed * (end - at) >= left) {
+            for (int at = leaving; at < last; at += hoursLeftOfMonth(at)) {
+                int speed = ship.speedIn(way, sea.windIn(monthOf(at), cell));
+                int goneInMonth = speed * hoursLeftOfMonth(at);
+                if (goneInMonth >= left) {
                     return at + hoursFor(left, speed);
                 }
-                left -= speed * (end - at);
-                at = end;
+                left -= goneInMonth;
             }
             return last + 1;
         }

@@ -60,11 +60,18 @@ public final class OracleTest {
             blowIn(month);
         }
         for (int i = drawn(1, 8); i > 0; i--) {
-            int cell = drawn(0, 159);
+            int cell = drawn(0, 1) == 0 ? drawn(0, 159) : cellNear(home);
             int kind = drawn(0, 3);
             int chests = drawn(0, 700);
             Check.due("ship", x.ship(kind, cell, chests), o.ship(kind, cell, chests));
         }
+    }
+
+    /** Few ships find HOME by chance from far away. */
+    private static int cellNear(int cell) {
+        int column = Math.max(0, Math.min(15, cell % 16 + drawn(-3, 3)));
+        int row = Math.max(0, Math.min(9, cell / 16 + drawn(-3, 3)));
+        return 16 * row + column;
     }
 
     private static void blowIn(int month) {
@@ -136,11 +143,15 @@ public final class OracleTest {
             return;
         }
         Check.due(when + " run", x.run(hours), o.run(hours));
+        Check.due(when + " first", x.first(), o.first());
         for (int s = 0; s < o.count(0); s++) {
             for (int what = 0; what < 7; what++) {
                 Check.due(when + " told " + s + " " + what, x.told(s, what), o.told(s, what));
             }
             Check.due(when + " mark", x.mark(s, 3), o.mark(s, 3));
+            Check.due(when + " freight", x.freight(s), o.freight(s));
+            Check.due(when + " sale", x.sale(s), o.sale(s));
+            Check.due(when + " asked", x.asked(), o.asked());
         }
     }
 
