@@ -2,8 +2,14 @@
 final class Check {
     private static int passed = 0;
     private static int failed = 0;
+    private static String about = "";
 
     private Check() {
+    }
+
+    /** The words of the document that the answers from now on are about. */
+    static void about(String words) {
+        about = words.isEmpty() ? "" : " [" + words + "]";
     }
 
     static void due(String call, long got, long want) {
@@ -11,12 +17,16 @@ final class Check {
             passed++;
         } else {
             failed++;
-            System.out.println(call + " answered " + got + ", due is " + want);
+            System.out.println(call + " answered " + got + ", due is " + want + about);
         }
     }
 
     static void holds(String what, boolean is) {
         due(what, is ? 1 : 0, 1);
+    }
+
+    static int seen() {
+        return passed + failed;
     }
 
     static void close(String test) {

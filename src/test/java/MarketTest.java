@@ -1,17 +1,22 @@
-/** Promises 21 to 26: charters, freights, and the market. */
+/** Promises 21 to 26: charters, freights, and the market; each sentence has its tests. */
 public final class MarketTest {
     public static void main(String[] args) {
         charter();
+        charterOfBadNumbers();
         freight();
+        freightOfBadNumbers();
+        freightAtSea();
         market();
+        marketOfBadNumbers();
         sale();
-        saleByHundreds();
-        saleOfLikeEntries();
-        saleAtMost();
+        saleOfBadNumbers();
+        saleAtSea();
         meanPrice();
-        meanPriceIsCut();
+        meanPriceOfMost();
+        meanPriceOfNoChests();
         asked();
-        Check.close("MarketTest");
+        askedBefore();
+        Document.close("MarketTest");
     }
 
     /** Steamers 1, 2, 3 .. cells from HOME with so many chests, all HOME; the gate opens at hour 7 each day. */
@@ -26,179 +31,226 @@ public final class MarketTest {
     }
 
     private static void charter() {
+        Document.says(21, "The rate (0 .. 1000) for a chest and the PREMIUM (0 .. 100000) of a SHIP: 1.");
         TeaRace x = home(7, 5);
         Check.due("freight(0) by no charter", x.freight(0), 0);
-        Check.due("charter(0, 1000, 100000)", x.charter(0, 1000, 100000), 1);
-        Check.due("charter(0, 1001, 0)", x.charter(0, 1001, 0), -1);
-        Check.due("charter(0, -1, 0)", x.charter(0, -1, 0), -1);
-        Check.due("charter(0, 0, 100001)", x.charter(0, 0, 100001), -1);
-        Check.due("charter(0, 0, -1)", x.charter(0, 0, -1), -1);
-        Check.due("charter(2, 0, 0)", x.charter(2, 0, 0), -1);
-        Check.due("charter(-1, 0, 0)", x.charter(-1, 0, 0), -1);
-        Check.due("freight(0)", x.freight(0), 107000);
-        Check.due("freight(1)", x.freight(1), 0);
-        Check.due("charter(0, 0, 0)", x.charter(0, 0, 0), 1);
-        Check.due("freight(0)", x.freight(0), 0);
+        int[][] charters = {{1000, 100000, 107000}, {0, 100000, 100000}, {1000, 0, 7000}, {1, 1, 8}, {0, 0, 0}};
+        for (int[] c : charters) {
+            Check.due("charter(0, " + c[0] + ", " + c[1] + ")", x.charter(0, c[0], c[1]), 1);
+            Check.due("freight(0) by it", x.freight(0), c[2]);
+            Check.due("freight(1) by none", x.freight(1), 0);
+        }
+        TeaRace y = new TeaRace();
+        Seas.steamerEastOfHome(y, 1, 3);
+        Check.due("charter(0, 5, 6) at HOUR 0", y.charter(0, 5, 6), 1);
+        y.run(8);
+        Check.due("freight(0) by it", y.freight(0), 21);
+    }
+
+    private static void charterOfBadNumbers() {
+        Document.says(21, "BAD.");
+        Edges.ofNumber("charter of a ship", Seas::atFirst, 0, 3, (x, ship) -> x.charter(ship, 1, 1));
+        Edges.ofNumber("charter of a rate", Seas::underWay, 0, 1000, (x, rate) -> x.charter(1, rate, 1));
+        Edges.ofNumber("charter of a premium", Seas::underWay, 0, 100000, (x, premium) -> x.charter(1, 1, premium));
+        Edges.bad("charter without ships", TeaRace::new, x -> x.charter(0, 0, 0));
     }
 
     private static void freight() {
+        Document.says(22, "FREIGHT of a SHIP that is HOME.");
         TeaRace x = new TeaRace();
         Seas.steamerEastOfHome(x, 2, 20000);
         Seas.steamerEastOfHome(x, 1, 10);
         x.charter(0, 1000, 100000);
         x.charter(1, 3, 8);
-        Check.due("freight(0) at sea", x.freight(0), -4);
-        Check.due("freight(2)", x.freight(2), -1);
-        Check.due("freight(-1)", x.freight(-1), -1);
         x.run(8);
         Check.due("freight(1) of the first", x.freight(1), 38);
-        Check.due("freight(0) at sea still", x.freight(0), -4);
         x.run(8);
         Check.due("freight(0) of the second", x.freight(0), 20000000);
-        Check.due("freight(1) of the first", x.freight(1), 38);
-        Check.due("finding()", x.finding(), 0);
-        Check.due("freight(0) of the first", firstOfMuch(), 20100000);
+        Check.due("freight(1) of the first still", x.freight(1), 38);
+        x.charter(0, 0, 100000);
+        Check.due("freight(0) without a rate", x.freight(0), 0);
+        TeaRace y = home(20000);
+        y.charter(0, 1000, 100000);
+        Check.due("freight(0) of the most", y.freight(0), 20100000);
+        // the dock opens at 14 for both; ship 1 was HOME before ship 0
+        TeaRace z = new TeaRace();
+        z.home(0, 14);
+        Seas.steamerEastOfHome(z, 2, 1);
+        Seas.steamerEastOfHome(z, 1, 1);
+        z.charter(0, 0, 5);
+        z.charter(1, 0, 6);
+        z.run(15);
+        Check.due("like entries: freight(0)", z.freight(0), 0);
+        Check.due("like entries, HOME earlier: freight(1)", z.freight(1), 6);
     }
 
-    private static int firstOfMuch() {
-        TeaRace x = home(20000);
-        x.charter(0, 1000, 100000);
-        return x.freight(0);
+    private static void freightOfBadNumbers() {
+        Document.says(22, "BAD;");
+        Edges.ofNumber("freight of a ship", () -> home(1, 2, 3), 0, 2, TeaRace::freight);
+        Edges.bad("freight without ships", TeaRace::new, x -> x.freight(0));
+    }
+
+    private static void freightAtSea() {
+        Document.says(22, "STATE: it is not.");
+        for (int s = 0; s < 4; s++) {
+            int ship = s;
+            Edges.refused("freight at first", Seas::atFirst, x -> x.freight(ship), Edges.STATE, Edges.NO_FINDING);
+        }
+        Edges.refused("freight at sea", Seas::underWay, x -> x.freight(0), Edges.STATE, Edges.NO_FINDING);
+        Edges.taken("freight of one HOME", Seas::underWay, x -> x.freight(1));
+        TeaRace x = new TeaRace();
+        Seas.steamerEastOfHome(x, 1, 3);
+        x.ship(0, 0, 3);
+        x.run(7);
+        Check.due("an hour before", x.freight(0), -4);
+        x.run(1);
+        Check.due("HOME", x.freight(0), 0);
+        Check.due("one that lies at HOME from the first", x.freight(1), -4);
     }
 
     private static void market() {
+        Document.says(23, "Price (1 .. 10000) and fall (0 .. 1000) of THE MARKET: 1.");
         TeaRace x = home(100, 1);
-        Check.due("sale(0) at first", x.sale(0), 100);
-        Check.due("sale(1) at first", x.sale(1), 99);
-        Check.due("market(0, 5)", x.market(0, 5), -1);
-        Check.due("market(-1, 5)", x.market(-1, 5), -1);
-        Check.due("market(10001, 5)", x.market(10001, 5), -1);
-        Check.due("market(5, -1)", x.market(5, -1), -1);
-        Check.due("market(5, 1001)", x.market(5, 1001), -1);
-        Check.due("sale(1) still", x.sale(1), 99);
-        Check.due("market(10000, 1000)", x.market(10000, 1000), 1);
-        Check.due("sale(0)", x.sale(0), 10000);
-        Check.due("sale(1)", x.sale(1), 9000);
-        Check.due("market(1, 0)", x.market(1, 0), 1);
-        Check.due("sale(0)", x.sale(0), 1);
-        Check.due("sale(1)", x.sale(1), 1);
-        Check.due("market(7, 0)", x.market(7, 0), 1);
-        Check.due("sale(1)", x.sale(1), 7);
+        int[][] markets = {{10000, 1000, 10000, 9000}, {1, 0, 1, 1}, {1, 1000, 1, 1}, {10000, 0, 10000, 10000}, {7, 1, 7, 6}};
+        for (int[] m : markets) {
+            Check.due("market(" + m[0] + ", " + m[1] + ")", x.market(m[0], m[1]), 1);
+            Check.due("sale(0)", x.sale(0), m[2]);
+            Check.due("sale(1)", x.sale(1), m[3]);
+        }
+        Check.due("market() of a new object", new TeaRace().market(1, 0), 1);
+    }
+
+    private static void marketOfBadNumbers() {
+        Document.says(23, "BAD.");
+        Edges.ofNumber("market of a price", Seas::atFirst, 1, 10000, (x, price) -> x.market(price, 5));
+        Edges.ofNumber("market of a fall", Seas::underWay, 0, 1000, (x, fall) -> x.market(5, fall));
+        Edges.bad("market of nothing", Seas::underWay, x -> x.market(0, 0));
     }
 
     private static void sale() {
-        TeaRace x = new TeaRace();
-        Seas.steamerEastOfHome(x, 1, 9);
-        Check.due("sale(0) at sea", x.sale(0), -4);
-        Check.due("sale(1)", x.sale(1), -1);
-        Check.due("sale(-1)", x.sale(-1), -1);
-        x.run(8);
-        Check.due("sale(0)", x.sale(0), 100);
-        Check.due("asked()", x.asked(), 900);
-        Check.due("finding()", x.finding(), 0);
-    }
-
-    private static void saleByHundreds() {
-        int[] before = {0, 1, 99, 100, 101, 200, 201, 899, 900, 901, 20000};
-        int[] price = {50, 45, 45, 45, 40, 40, 35, 5, 5, 1, 1};
-        for (int i = 0; i < before.length; i++) {
-            TeaRace x = home(before[i], 3);
-            x.market(50, 5);
-            Check.due("sale(0)", x.sale(0), 50);
-            Check.due("asked()", x.asked(), 50L * before[i]);
-            Check.due("sale(1) behind " + before[i], x.sale(1), price[i]);
-            Check.due("asked()", x.asked(), 3 * price[i]);
+        Document.says(24, "What a SHIP that is HOME gets for all its chests, told by asked(): the price.");
+        TeaRace x = home(9, 250, 0, 1);
+        int[] prices = {100, 99, 97, 97};
+        int[] told = {900, 24750, 0, 97};
+        for (int ship = 3; ship >= 0; ship--) {
+            Check.due("sale(" + ship + ")", x.sale(ship), prices[ship]);
+            Check.due("asked()", x.asked(), told[ship]);
         }
-        TeaRace x = home(150, 150, 1);
-        Check.due("150 and 150 are three hundreds", x.sale(2), 97);
-        Check.due("its own chests don't count", x.sale(1), 98);
+        TeaRace y = home(20000, 20000, 20000, 20000, 20000, 20000, 20000, 20000);
+        y.market(10000, 0);
+        Check.due("sale(7)", y.sale(7), 10000);
+        Check.due("asked()", y.asked(), 200000000);
+        y.market(10000, 1000);
+        Check.due("sale(7) after a fall", y.sale(7), 1);
+        Check.due("asked()", y.asked(), 20000);
+        Check.due("finding()", y.finding(), 0);
     }
 
-    private static void saleOfLikeEntries() {
-        // the gate opens at 16: both have ENTRY 16, though the second was HOME before the first
+    private static void saleOfBadNumbers() {
+        Document.says(24, "BAD;");
+        Edges.ofNumber("sale of a ship", () -> home(1, 2, 3), 0, 2, TeaRace::sale);
+        Edges.bad("sale without ships", TeaRace::new, x -> x.sale(0));
+    }
+
+    private static void saleAtSea() {
+        Document.says(24, "STATE.");
+        for (int s = 0; s < 4; s++) {
+            int ship = s;
+            Edges.refused("sale at first", Seas::atFirst, x -> x.sale(ship), Edges.STATE, Edges.NO_FINDING);
+        }
+        Edges.refused("sale at sea", Seas::underWay, x -> x.sale(3), Edges.STATE, Edges.NO_FINDING);
         TeaRace x = new TeaRace();
-        x.home(0, 16);
-        Seas.steamerEastOfHome(x, 2, 400);
-        Seas.steamerEastOfHome(x, 1, 300);
-        x.run(8);
-        Check.due("alone", x.sale(1), 100);
-        x.run(8);
-        Check.due("the lesser ship first", x.sale(0), 100);
-        Check.due("the other behind it", x.sale(1), 96);
-        // the gate opens at 7: the second has ENTRY 7, the first 14 of that day
-        TeaRace y = new TeaRace();
-        y.home(0, 9);
-        Seas.steamerEastOfHome(y, 3, 400);
-        Seas.steamerEastOfHome(y, 1, 300);
-        y.run(30);
-        Check.due("told(0, 5)", y.told(0, 5), 33);
-        Check.due("told(1, 5)", y.told(1, 5), 9);
-        Check.due("the earlier ENTRY first", y.sale(1), 100);
-        Check.due("the later ENTRY behind it", y.sale(0), 97);
-    }
-
-    private static void saleAtMost() {
-        TeaRace x = home(20000, 20000, 20000, 20000, 20000, 20000, 20000, 20000);
-        x.market(10000, 0);
-        Check.due("sale(7)", x.sale(7), 10000);
-        Check.due("asked()", x.asked(), 200000000);
-        Check.due("meanPrice()", x.meanPrice(), 10000);
-        x.market(10000, 1000);
-        Check.due("sale(7)", x.sale(7), 1);
-        Check.due("asked()", x.asked(), 20000);
+        Seas.steamerEastOfHome(x, 1, 3);
+        x.ship(0, 0, 3);
+        x.run(7);
+        Check.due("an hour before", x.sale(0), -4);
+        x.run(1);
+        Check.due("HOME", x.sale(0), 100);
+        Check.due("one that lies at HOME from the first", x.sale(1), -4);
     }
 
     private static void meanPrice() {
+        Document.says(25, "All that SHIPS that are HOME get, by their chests, cut.");
         TeaRace x = new TeaRace();
-        Check.due("meanPrice() without ships", x.meanPrice(), -3);
-        Check.due("finding()", x.finding(), 4);
         Seas.steamerEastOfHome(x, 1, 0);
         Seas.steamerEastOfHome(x, 2, 101);
         Seas.steamerEastOfHome(x, 3, 50);
-        Check.due("meanPrice() at sea", x.meanPrice(), -3);
-        x.run(8);
-        Check.due("meanPrice() of no chests", x.meanPrice(), -3);
-        Check.due("findings(4)", x.findings(4), 3);
         x.market(10, 3);
+        x.run(16);
+        Check.due("101 at 10, 50 at sea", x.meanPrice(), 10);
         x.run(8);
-        Check.due("meanPrice() of one", x.meanPrice(), 10);
-        x.run(8);
-        // 101 at 10 and 50 at 4: 1210 by 151
-        Check.due("meanPrice() is cut", x.meanPrice(), 8);
-        Check.due("findings(4)", x.findings(4), 3);
+        Check.due("101 at 10 and 50 at 4: 1210 by 151", x.meanPrice(), 8);
         Check.due("asked() is told by sale() alone", x.asked(), 0);
+        // prices fall from 10 by 3 or 2, so a mean is just whole, or one chest's price less
+        int[][] means = {{1, 3, 3, 7}, {2, 6, 2, 8}, {10, 10, 4, 8}, {1, 1, 3, 8}, {1, 1, 1, 9}, {1, 0, 3, 10}, {3, 1, 4, 9}, {4, 1, 5, 9}};
+        for (int[] m : means) {
+            TeaRace y = home(m[0], m[1]);
+            y.market(10, m[2]);
+            Check.due(m[0] + " at 10 and " + m[1] + " at " + (10 - m[2]), y.meanPrice(), m[3]);
+        }
+        Check.due("meanPrice() of the first market", home(100, 100).meanPrice(), 99);
     }
 
-    /** 1 at 10 and 3 at 7 are 31, one less than four times 8. */
-    private static void meanPriceIsCut() {
-        TeaRace x = home(1, 3);
-        x.market(10, 3);
-        Check.due("meanPrice() of 31 by 4", x.meanPrice(), 7);
-        TeaRace y = home(2, 6);
-        y.market(10, 2);
-        Check.due("meanPrice() of 68 by 8", y.meanPrice(), 8);
-        TeaRace z = home(10, 0, 10);
-        z.market(9, 4);
-        Check.due("meanPrice() of 140 by 20", z.meanPrice(), 7);
+    private static void meanPriceOfMost() {
+        TeaRace x = home(20000, 20000, 20000, 20000, 20000, 20000, 20000, 20000);
+        x.market(10000, 0);
+        Check.due("1600000000 by 160000", x.meanPrice(), 10000);
+        x.market(10000, 1);
+        Check.due("prices from 10000 to 8600", x.meanPrice(), 9300);
+        x.market(10000, 1000);
+        Check.due("20000 at 10000 and 140000 at 1", x.meanPrice(), 1250);
+    }
+
+    private static void meanPriceOfNoChests() {
+        Document.says(25, "NOUGHT: no chests.");
+        Edges.finds("meanPrice without ships", TeaRace::new, TeaRace::meanPrice, Edges.NOUGHT);
+        Edges.finds("meanPrice of none HOME", Seas::atFirst, TeaRace::meanPrice, Edges.NOUGHT);
+        Edges.finds("meanPrice of ships without chests", () -> home(0, 0), TeaRace::meanPrice, Edges.NOUGHT);
+        Edges.taken("meanPrice of one chest", () -> home(0, 1), TeaRace::meanPrice);
+        TeaRace x = new TeaRace();
+        Seas.steamerEastOfHome(x, 1, 0);
+        Seas.steamerEastOfHome(x, 2, 1);
+        x.run(14);
+        Check.due("one HOME without chests, one at sea", x.meanPrice(), -3);
+        x.run(1);
+        Check.due("both HOME", x.meanPrice(), 100);
+        Check.due("findings(4)", x.findings(4), 1);
     }
 
     private static void asked() {
+        Document.says(26, "What the latest sale() that was not refused told;");
         TeaRace x = new TeaRace();
         Seas.steamerEastOfHome(x, 1, 9);
         Seas.steamerEastOfHome(x, 9, 9);
         Seas.steamerEastOfHome(x, 2, 0);
-        Check.due("asked() before", x.asked(), 0);
-        x.sale(0);
-        Check.due("asked() after a refused sale", x.asked(), 0);
         x.run(20);
-        x.sale(0);
+        Check.due("sale(0)", x.sale(0), 100);
         Check.due("asked()", x.asked(), 900);
         Check.due("sale(1) at sea", x.sale(1), -4);
+        Check.due("asked() stays", x.asked(), 900);
         Check.due("sale(3)", x.sale(3), -1);
         Check.due("asked() stays", x.asked(), 900);
         x.market(1, 1);
+        x.meanPrice();
+        x.freight(0);
         Check.due("asked() is what was told", x.asked(), 900);
-        x.sale(2);
+        Check.due("sale(2)", x.sale(2), 1);
         Check.due("asked() of no chests", x.asked(), 0);
+        Check.due("sale(0)", x.sale(0), 1);
+        Check.due("asked()", x.asked(), 9);
+    }
+
+    private static void askedBefore() {
+        Document.says(26, "0 before.");
+        Check.due("asked() of a new object", new TeaRace().asked(), 0);
+        TeaRace x = new TeaRace();
+        Seas.steamerEastOfHome(x, 1, 9);
+        x.sale(0);
+        x.sale(1);
+        Check.due("asked() after refused sales", x.asked(), 0);
+        x.run(8);
+        x.meanPrice();
+        x.freight(0);
+        Check.due("asked() as a ship is HOME", x.asked(), 0);
     }
 }

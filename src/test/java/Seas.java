@@ -23,4 +23,69 @@ final class Seas {
         steer(x, ship, 6);
         return ship;
     }
+
+    /** A steamer in cell 1 under order west, too foul to go before it is let go. */
+    static int steamerAtAnchor(TeaRace x, int chests) {
+        int ship = steamerEastOfHome(x, 1, chests);
+        x.foul(ship, 9);
+        return ship;
+    }
+
+    /** Steamers at anchor are let go so that they are HOME in an hour, 7 or more hours from now. */
+    static void bringHome(TeaRace x, int hour, int... ships) {
+        goTo(x, hour - 7);
+        for (int ship : ships) {
+            x.foul(ship, 0);
+        }
+        x.run(8);
+    }
+
+    /** Runs until it is an hour. */
+    static void goTo(TeaRace x, int hour) {
+        for (int left = hour - x.count(1); left > 0; left -= 2000) {
+            x.run(Math.min(2000, left));
+        }
+    }
+
+    /** HOUR 0, with something of everything, one finding too: whatever is changed in it shows in its Portrait. */
+    static TeaRace atFirst() {
+        TeaRace x = new TeaRace();
+        x.home(34, 10);
+        x.land(9, true);
+        x.land(70, true);
+        x.land(159, true);
+        blow(x, 0, 25);
+        x.wind(0, 53, -7);
+        x.chart(1);
+        x.wind(1, 40, 63);
+        x.ship(0, 37, 250);
+        x.ship(1, 66, 120);
+        x.ship(2, 36, 90);
+        x.ship(3, 100, 1000);
+        x.foul(3, 2);
+        x.order(0, 0, 15, 2, 2, 3, 6);
+        x.order(0, 0, 15, 0, 9, 0, 3);
+        steer(x, 1, 0);
+        steer(x, 2, 6);
+        x.order(3, 5, 15, 0, 9, 5, 7);
+        x.sight(0, 5, 3);
+        x.sight(0, 6, 9);
+        x.sight(1, 100, 2);
+        x.sight(1, 90, 12);
+        x.sight(3, 8, 5);
+        x.charter(0, 2, 9);
+        x.charter(1, 3, 70);
+        x.charter(2, 4, 5);
+        x.market(80, 7);
+        x.tear(2);
+        return x;
+    }
+
+    /** The same at HOUR 16: ships 1 and 2 are HOME, a sale has been told. */
+    static TeaRace underWay() {
+        TeaRace x = atFirst();
+        x.run(16);
+        x.sale(1);
+        return x;
+    }
 }
