@@ -25,6 +25,11 @@ final class Check {
         due(what, is ? 1 : 0, 1);
     }
 
+    static void lies(String when, TeaRace x, int ship, int cell, int gone) {
+        due(when + ": cell of " + ship, x.told(ship, 1), cell);
+        due(when + ": gone of " + ship, x.told(ship, 2), gone);
+    }
+
     static int seen() {
         return passed + failed;
     }

@@ -9,11 +9,13 @@ import java.util.regex.Matcher;
 import java.util.regex.Pattern;
 
 /**
- * The words of ../shared/DOC.md, part by part (the Terms, then the promises), and which of them a test has spoken
- * for: no sentence is left without a test of its own, and no test stands for words that the document doesn't have.
+ * The words of ../shared/DOC.md, part by part (what it is, the Terms, the promises), and which of them a test has
+ * spoken for: no sentence is left without a test of its own, and no test stands for words that the document doesn't
+ * have. It is run in the project's folder.
  */
 final class Document {
     private static final Path FILE = Path.of("..", "shared", "DOC.md");
+    private static final Path TESTS = Path.of("src", "test", "java");
     private static final Pattern WHAT = Pattern.compile("## (What it is) (.*?)(?=## )");
     private static final Pattern TERM = Pattern.compile("======== ((?:\\d )?[A-Z]+(?: [A-Z]+)*)(.*?)(?=========|Ahead of|\\z)");
     private static final Pattern PROMISE = Pattern.compile("## (Promise \\d+): [^`]*`[^`]*`: (.*?)(?=## |\\z)");
@@ -33,11 +35,10 @@ final class Document {
     /** The test that must speak for all words of a part. */
     static String owner(String part) {
         switch (part) {
-            case "ANSWERS": return "AnswersTest";
+            case "What it is": case "ANSWERS": return "AnswersTest";
             case "1 THE SEA": return "SeaTermsTest";
             case "2 A RACE": return "RaceTermsTest";
             case "3 LOGS": return "LogTermsTest";
-            case "What it is": return "no one test";
             default: return part.startsWith(PROMISED) ? ownerOfPromise(Integer.parseInt(part.substring(PROMISED.length()))) : "";
         }
     }
@@ -89,7 +90,7 @@ final class Document {
             System.out.println(FILE + " can't be read: that its words are spoken for is not looked at");
         }
         for (Map.Entry<String, String> part : PARTS.entrySet()) {
-            Check.holds(part.getKey() + " has a test that must speak for it", !owner(part.getKey()).isEmpty());
+            Check.holds(part.getKey() + " has a test", Files.exists(TESTS.resolve(owner(part.getKey()) + ".java")));
             if (owner(part.getKey()).equals(test)) {
                 String left = unspoken(part.getValue(), SPOKEN.getOrDefault(part.getKey(), new BitSet()));
                 Check.holds(part.getKey() + " has no words without a test: " + left, left.isEmpty());

@@ -204,20 +204,9 @@ public final class LogTermsTest {
         Check.due("like distances", like.ahead(0, 1, 3), 2);
     }
 
-    /** Steamers 1, 2, 3 .. cells from HOME with so many chests, all HOME; the gate opens at hour 7 each day. */
-    private static TeaRace home(int... chests) {
-        TeaRace x = new TeaRace();
-        x.home(0, 7);
-        for (int i = 0; i < chests.length; i++) {
-            Seas.steamerEastOfHome(x, i + 1, chests[i]);
-        }
-        x.run(100);
-        return x;
-    }
-
     private static void freight() {
         says("CHARTERS: FREIGHT of a SHIP: chests times a rate, and a PREMIUM for THE FIRST.");
-        TeaRace x = home(10, 20, 0);
+        TeaRace x = Seas.allHome(10, 20, 0);
         x.charter(0, 3, 70);
         x.charter(1, 5, 80);
         x.charter(2, 1000, 90);
@@ -231,20 +220,20 @@ public final class LogTermsTest {
     }
 
     private static int premiumAlone() {
-        TeaRace x = home(0);
+        TeaRace x = Seas.allHome(0);
         x.charter(0, 1000, 100000);
         return x.freight(0);
     }
 
     private static int most(int ship) {
-        TeaRace x = home(20000, 20000);
+        TeaRace x = Seas.allHome(20000, 20000);
         x.charter(ship, 1000, 100000);
         return x.freight(ship);
     }
 
     private static void priceAtFirst() {
         says("THE MARKET: price p at first (p 100, f 1, if not told otherwise);");
-        TeaRace x = home(100, 1);
+        TeaRace x = Seas.allHome(100, 1);
         Check.due("sale(0)", x.sale(0), 100);
         Check.due("sale(1)", x.sale(1), 99);
         x.market(50, 4);
@@ -257,15 +246,15 @@ public final class LogTermsTest {
         int[] before = {0, 1, 99, 100, 101, 199, 200, 201, 899, 900, 901, 20000};
         int[] price = {500, 495, 495, 495, 490, 490, 490, 485, 455, 455, 450, 1};
         for (int i = 0; i < before.length; i++) {
-            TeaRace x = home(before[i], 3);
+            TeaRace x = Seas.allHome(before[i], 3);
             x.market(500, before[i] == 20000 ? 3 : 5);
             Check.due("the price behind " + before[i], x.sale(1), price[i]);
         }
-        Check.due("150 and 150 are three hundreds", home(150, 150, 1).sale(2), 97);
-        Check.due("150 alone are two hundreds, whatever its own", home(150, 150, 1).sale(1), 98);
-        Check.due("50 and 50 are one hundred", home(50, 50, 1).sale(2), 99);
-        Check.due("50, 0 and 51 are two hundreds", home(50, 0, 51, 1).sale(3), 98);
-        TeaRace x = home(20000, 3);
+        Check.due("150 and 150 are three hundreds", Seas.allHome(150, 150, 1).sale(2), 97);
+        Check.due("150 alone are two hundreds, whatever its own", Seas.allHome(150, 150, 1).sale(1), 98);
+        Check.due("50 and 50 are one hundred", Seas.allHome(50, 50, 1).sale(2), 99);
+        Check.due("50, 0 and 51 are two hundreds", Seas.allHome(50, 0, 51, 1).sale(3), 98);
+        TeaRace x = Seas.allHome(20000, 3);
         x.market(10000, 0);
         Check.due("a market that doesn't fall", x.sale(1), 10000);
     }
@@ -301,11 +290,11 @@ public final class LogTermsTest {
         int[] fall = {48, 49, 50, 51, 1000};
         int[] price = {2, 1, 1, 1, 1};
         for (int i = 0; i < fall.length; i++) {
-            TeaRace x = home(100, 3);
+            TeaRace x = Seas.allHome(100, 3);
             x.market(50, fall[i]);
             Check.due("50 less " + fall[i], x.sale(1), price[i]);
         }
-        TeaRace x = home(20000, 20000, 20000, 20000, 20000, 20000, 20000, 20000);
+        TeaRace x = Seas.allHome(20000, 20000, 20000, 20000, 20000, 20000, 20000, 20000);
         x.market(1, 1000);
         Check.due("at the most chests and the greatest fall", x.sale(7), 1);
         x.market(10000, 7);
@@ -314,7 +303,7 @@ public final class LogTermsTest {
 
     private static void allChests() {
         says("a SHIP sells all its chests at the price at its ENTRY.");
-        TeaRace x = home(250, 1000);
+        TeaRace x = Seas.allHome(250, 1000);
         x.market(10, 2);
         Check.due("sale(0)", x.sale(0), 10);
         Check.due("250 at 10", x.asked(), 2500);

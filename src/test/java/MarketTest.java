@@ -19,20 +19,9 @@ public final class MarketTest {
         Document.close("MarketTest");
     }
 
-    /** Steamers 1, 2, 3 .. cells from HOME with so many chests, all HOME; the gate opens at hour 7 each day. */
-    private static TeaRace home(int... chests) {
-        TeaRace x = new TeaRace();
-        x.home(0, 7);
-        for (int i = 0; i < chests.length; i++) {
-            Seas.steamerEastOfHome(x, i + 1, chests[i]);
-        }
-        x.run(100);
-        return x;
-    }
-
     private static void charter() {
         Document.says(21, "The rate (0 .. 1000) for a chest and the PREMIUM (0 .. 100000) of a SHIP: 1.");
-        TeaRace x = home(7, 5);
+        TeaRace x = Seas.allHome(7, 5);
         Check.due("freight(0) by no charter", x.freight(0), 0);
         int[][] charters = {{1000, 100000, 107000}, {0, 100000, 100000}, {1000, 0, 7000}, {1, 1, 8}, {0, 0, 0}};
         for (int[] c : charters) {
@@ -69,7 +58,7 @@ public final class MarketTest {
         Check.due("freight(1) of the first still", x.freight(1), 38);
         x.charter(0, 0, 100000);
         Check.due("freight(0) without a rate", x.freight(0), 0);
-        TeaRace y = home(20000);
+        TeaRace y = Seas.allHome(20000);
         y.charter(0, 1000, 100000);
         Check.due("freight(0) of the most", y.freight(0), 20100000);
         // the dock opens at 14 for both; ship 1 was HOME before ship 0
@@ -86,7 +75,7 @@ public final class MarketTest {
 
     private static void freightOfBadNumbers() {
         Document.says(22, "BAD;");
-        Edges.ofNumber("freight of a ship", () -> home(1, 2, 3), 0, 2, TeaRace::freight);
+        Edges.ofNumber("freight of a ship", () -> Seas.allHome(1, 2, 3), 0, 2, TeaRace::freight);
         Edges.bad("freight without ships", TeaRace::new, x -> x.freight(0));
     }
 
@@ -110,7 +99,7 @@ public final class MarketTest {
 
     private static void market() {
         Document.says(23, "Price (1 .. 10000) and fall (0 .. 1000) of THE MARKET: 1.");
-        TeaRace x = home(100, 1);
+        TeaRace x = Seas.allHome(100, 1);
         int[][] markets = {{10000, 1000, 10000, 9000}, {1, 0, 1, 1}, {1, 1000, 1, 1}, {10000, 0, 10000, 10000}, {7, 1, 7, 6}};
         for (int[] m : markets) {
             Check.due("market(" + m[0] + ", " + m[1] + ")", x.market(m[0], m[1]), 1);
@@ -129,14 +118,14 @@ public final class MarketTest {
 
     private static void sale() {
         Document.says(24, "What a SHIP that is HOME gets for all its chests, told by asked(): the price.");
-        TeaRace x = home(9, 250, 0, 1);
+        TeaRace x = Seas.allHome(9, 250, 0, 1);
         int[] prices = {100, 99, 97, 97};
         int[] told = {900, 24750, 0, 97};
         for (int ship = 3; ship >= 0; ship--) {
             Check.due("sale(" + ship + ")", x.sale(ship), prices[ship]);
             Check.due("asked()", x.asked(), told[ship]);
         }
-        TeaRace y = home(20000, 20000, 20000, 20000, 20000, 20000, 20000, 20000);
+        TeaRace y = Seas.allHome(20000, 20000, 20000, 20000, 20000, 20000, 20000, 20000);
         y.market(10000, 0);
         Check.due("sale(7)", y.sale(7), 10000);
         Check.due("asked()", y.asked(), 200000000);
@@ -148,7 +137,7 @@ public final class MarketTest {
 
     private static void saleOfBadNumbers() {
         Document.says(24, "BAD;");
-        Edges.ofNumber("sale of a ship", () -> home(1, 2, 3), 0, 2, TeaRace::sale);
+        Edges.ofNumber("sale of a ship", () -> Seas.allHome(1, 2, 3), 0, 2, TeaRace::sale);
         Edges.bad("sale without ships", TeaRace::new, x -> x.sale(0));
     }
 
@@ -182,17 +171,18 @@ public final class MarketTest {
         Check.due("101 at 10 and 50 at 4: 1210 by 151", x.meanPrice(), 8);
         Check.due("asked() is told by sale() alone", x.asked(), 0);
         // prices fall from 10 by 3 or 2, so a mean is just whole, or one chest's price less
-        int[][] means = {{1, 3, 3, 7}, {2, 6, 2, 8}, {10, 10, 4, 8}, {1, 1, 3, 8}, {1, 1, 1, 9}, {1, 0, 3, 10}, {3, 1, 4, 9}, {4, 1, 5, 9}};
+        int[][] means = {{1, 3, 3, 7}, {2, 6, 2, 8}, {10, 10, 4, 8}, {1, 1, 3, 8}, {1, 1, 1, 9}, {1, 0, 3, 10}, {3, 1, 4, 9},
+            {4, 1, 5, 9}};
         for (int[] m : means) {
-            TeaRace y = home(m[0], m[1]);
+            TeaRace y = Seas.allHome(m[0], m[1]);
             y.market(10, m[2]);
             Check.due(m[0] + " at 10 and " + m[1] + " at " + (10 - m[2]), y.meanPrice(), m[3]);
         }
-        Check.due("meanPrice() of the first market", home(100, 100).meanPrice(), 99);
+        Check.due("meanPrice() of the first market", Seas.allHome(100, 100).meanPrice(), 99);
     }
 
     private static void meanPriceOfMost() {
-        TeaRace x = home(20000, 20000, 20000, 20000, 20000, 20000, 20000, 20000);
+        TeaRace x = Seas.allHome(20000, 20000, 20000, 20000, 20000, 20000, 20000, 20000);
         x.market(10000, 0);
         Check.due("1600000000 by 160000", x.meanPrice(), 10000);
         x.market(10000, 1);
@@ -205,8 +195,8 @@ public final class MarketTest {
         Document.says(25, "NOUGHT: no chests.");
         Edges.finds("meanPrice without ships", TeaRace::new, TeaRace::meanPrice, Edges.NOUGHT);
         Edges.finds("meanPrice of none HOME", Seas::atFirst, TeaRace::meanPrice, Edges.NOUGHT);
-        Edges.finds("meanPrice of ships without chests", () -> home(0, 0), TeaRace::meanPrice, Edges.NOUGHT);
-        Edges.taken("meanPrice of one chest", () -> home(0, 1), TeaRace::meanPrice);
+        Edges.finds("meanPrice of ships without chests", () -> Seas.allHome(0, 0), TeaRace::meanPrice, Edges.NOUGHT);
+        Edges.taken("meanPrice of one chest", () -> Seas.allHome(0, 1), TeaRace::meanPrice);
         TeaRace x = new TeaRace();
         Seas.steamerEastOfHome(x, 1, 0);
         Seas.steamerEastOfHome(x, 2, 1);

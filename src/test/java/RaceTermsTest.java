@@ -24,24 +24,19 @@ public final class RaceTermsTest {
         Document.says(RACE, words);
     }
 
-    private static void lies(String when, TeaRace x, int ship, int cell, int gone) {
-        Check.due(when + ": cell of " + ship, x.told(ship, 1), cell);
-        Check.due(when + ": gone of " + ship, x.told(ship, 2), gone);
-    }
-
     private static void liesFromAnHourOn() {
         says("each SHIP lies in a CELL from an HOUR on (GONE 0).");
         TeaRace x = new TeaRace();
         x.home(159, 0);
         x.ship(2, 87, 0);
-        lies("at first", x, 0, 87, 0);
+        Check.lies("at first", x, 0, 87, 0);
         x.run(0);
-        lies("no hour later", x, 0, 87, 0);
+        Check.lies("no hour later", x, 0, 87, 0);
         x.ship(2, 87, 0);
-        lies("another one in the same cell", x, 1, 87, 0);
+        Check.lies("another one in the same cell", x, 1, 87, 0);
         x.run(1);
-        lies("an hour later", x, 0, 87, 8);
-        lies("an hour later", x, 1, 87, 8);
+        Check.lies("an hour later", x, 0, 87, 8);
+        Check.lies("an hour later", x, 1, 87, 8);
     }
 
     private static void isHomeInThatHour() {
@@ -65,7 +60,7 @@ public final class RaceTermsTest {
             x.ship(2, home == 0 ? 1 : home - 1, 0);
             Seas.steer(x, 0, home == 0 ? 6 : 2);
             Check.due("HOME " + home, x.run(8), 1);
-            lies("at HOME", x, 0, home, 4);
+            Check.lies("at HOME", x, 0, home, 4);
         }
     }
 
@@ -75,10 +70,10 @@ public final class RaceTermsTest {
         Seas.steamerEastOfHome(x, 1, 0);
         Seas.steamerEastOfHome(x, 3, 0);
         Check.due("run(8)", x.run(8), 1);
-        lies("HOME", x, 0, 0, 4);
+        Check.lies("HOME", x, 0, 0, 4);
         Check.due("run(2000)", x.run(2000), 1);
-        lies("it goes no more", x, 0, 0, 4);
-        lies("nor does the other one", x, 1, 0, 4);
+        Check.lies("it goes no more", x, 0, 0, 4);
+        Check.lies("nor does the other one", x, 1, 0, 4);
         Check.due("told(0, 4) stays", x.told(0, 4), 7);
         Check.due("told(0, 5) stays", x.told(0, 5), 24);
         Check.due("told(1, 4) stays", x.told(1, 4), 22);
@@ -109,19 +104,12 @@ public final class RaceTermsTest {
     }
 
     private static void homeBetweenTwoMoves() {
-        TeaRace y = new TeaRace();
-        y.home(35, 0);
-        Seas.blow(y, 0, 18);
-        y.ship(3, 34, 0);
-        y.order(0, 0, 15, 0, 9, 9, 2);
-        y.order(0, 0, 15, 0, 9, 8, 5);
-        y.run(5);
-        Seas.blow(y, 0, 79);
+        TeaRace y = Seas.racerBeforeTwoMoves(35);
         Check.due("one HOME", y.run(1), 1);
-        lies("HOME after the first move, with enough for a second", y, 0, 35, 65);
+        Check.lies("HOME after the first move, with enough for a second", y, 0, 35, 65);
         Check.due("cells come to", y.mark(0, 3), 1);
         Check.due("none HOME", y.run(100), 0);
-        lies("it goes no more", y, 0, 35, 65);
+        Check.lies("it goes no more", y, 0, 35, 65);
         Check.due("HOUR of HOME", y.told(0, 4), 5);
     }
 
@@ -141,8 +129,8 @@ public final class RaceTermsTest {
                 Check.due("gate " + g + ": ENTRY of HOUR " + hour, x.told(0, 5), entry);
             }
         }
-        int[][] known = {{20, 19, 20}, {20, 20, 20}, {20, 23, 23}, {20, 24, 24}, {20, 25, 25}, {20, 26, 44}, {23, 28, 28}, {23, 29, 47},
-            {18, 23, 23}, {18, 24, 42}, {19, 24, 24}, {19, 25, 43}};
+        int[][] known = {{20, 19, 20}, {20, 20, 20}, {20, 23, 23}, {20, 24, 24}, {20, 25, 25}, {20, 26, 44}, {23, 28, 28},
+            {23, 29, 47}, {18, 23, 23}, {18, 24, 42}, {19, 24, 24}, {19, 25, 43}};
         for (int[] k : known) {
             TeaRace x = new TeaRace();
             x.home(0, k[0]);

@@ -40,11 +40,6 @@ public final class SeaTermsTest {
         Document.says(SEA, words);
     }
 
-    private static void lies(String when, TeaRace x, int ship, int cell, int gone) {
-        Check.due(when + ": cell of " + ship, x.told(ship, 1), cell);
-        Check.due(when + ": gone of " + ship, x.told(ship, 2), gone);
-    }
-
     /** A ship of a kind alone in a cell, HOME far from it, under one order. */
     private static TeaRace alone(int kind, int cell, int way) {
         TeaRace x = new TeaRace();
@@ -113,7 +108,8 @@ public final class SeaTermsTest {
 
     /** One hour of a ship on way 0 in a cell of each byte, and of others whose orders tell the wind's strength. */
     private static void windOfBytes() {
-        says("the WIND of each CELL: 10 times the WAY from which it blows, and its strength 0 .. 9 (a byte that is none such: calm, 0).");
+        says("the WIND of each CELL: 10 times the WAY from which it blows, and its strength 0 .. 9"
+            + " (a byte that is none such: calm, 0).");
         int[] perStrength = {0, 1, 2, 3, 2, 3, 2, 1};
         for (int number = -128; number < 128; number++) {
             boolean isWind = number >= 0 && number < 80;
@@ -141,18 +137,18 @@ public final class SeaTermsTest {
         TeaRace x = alone(0, 87, 4);
         Seas.blow(x, 0, 9);
         x.run(1);
-        lies("with a chart", x, 0, 87, 18);
+        Check.lies("with a chart", x, 0, 87, 18);
         x.tear(0);
         x.order(0, 0, 15, 0, 9, 0, 2);
         x.run(2);
-        lies("without one", x, 0, 87, 18);
+        Check.lies("without one", x, 0, 87, 18);
         Check.due("no hours by it", x.least(0, 87, 103, 0), -9);
         x.chart(0);
         x.run(2);
-        lies("with a calm one", x, 0, 87, 18);
+        Check.lies("with a calm one", x, 0, 87, 18);
         x.wind(0, 87, 9);
         x.run(1);
-        lies("with a wind", x, 0, 87, 36);
+        Check.lies("with a wind", x, 0, 87, 36);
     }
 
     /** With wind in a month alone a ship goes in its hours; with wind in all the other months it doesn't. */
@@ -171,8 +167,8 @@ public final class SeaTermsTest {
             }
             x.run(1);
             y.run(1);
-            lies("hour " + m[0] + " is of month " + m[1], x, 0, 7, 2);
-            lies("hour " + m[0] + " is of no other month", y, 0, 7, 0);
+            Check.lies("hour " + m[0] + " is of month " + m[1], x, 0, 7, 2);
+            Check.lies("hour " + m[0] + " is of no other month", y, 0, 7, 0);
         }
     }
 
@@ -189,7 +185,7 @@ public final class SeaTermsTest {
             x.order(0, 0, 15, 0, 9, 1, 6);
             x.run(before[i]);
             x.run(722 - before[i]);
-            lies("at the sea's end, then in month 1", x, 0, 0, 8);
+            Check.lies("at the sea's end, then in month 1", x, 0, 0, 8);
             Check.due("way", x.told(0, 3), 2);
         }
     }
@@ -282,15 +278,15 @@ public final class SeaTermsTest {
             TeaRace x = alone(2, 87, way);
             int hours = way % 2 == 0 ? 8 : 11;
             x.run(hours - 1);
-            lies("way " + way + ", nearly", x, 0, 87, 8 * (hours - 1));
+            Check.lies("way " + way + ", nearly", x, 0, 87, 8 * (hours - 1));
             x.run(1);
-            lies("way " + way, x, 0, NEXT_TO_87[way], way % 2 == 0 ? 4 : 3);
+            Check.lies("way " + way, x, 0, NEXT_TO_87[way], way % 2 == 0 ? 4 : 3);
             TeaRace just = alone(0, 87, way);
             Seas.blow(just, 0, 10 * ((way + 1) % 8) + 5);
             just.run(way % 2 == 0 ? 11 : 16);
-            lies("way " + way + ", 5 before", just, 0, 87, way % 2 == 0 ? 55 : 80);
+            Check.lies("way " + way + ", 5 before", just, 0, 87, way % 2 == 0 ? 55 : 80);
             just.run(1);
-            lies("way " + way + ", just enough", just, 0, NEXT_TO_87[way], 0);
+            Check.lies("way " + way + ", just enough", just, 0, NEXT_TO_87[way], 0);
         }
         enoughByOne(0, 7, 60);
         enoughByOne(1, 10, 85);
@@ -301,10 +297,10 @@ public final class SeaTermsTest {
         for (int over = -1; over <= 1; over++) {
             TeaRace x = alone(2, 87, way);
             x.run(hours);
-            lies("way " + way, x, 0, 87, 8 * hours);
+            Check.lies("way " + way, x, 0, 87, 8 * hours);
             x.foul(0, 8 - (need + over - 8 * hours));
             x.run(1);
-            lies("way " + way + ", " + over + " over", x, 0, over < 0 ? 87 : NEXT_TO_87[way], over < 0 ? need - 1 : over);
+            Check.lies("way " + way + ", " + over + " over", x, 0, over < 0 ? 87 : NEXT_TO_87[way], over < 0 ? need - 1 : over);
         }
     }
 
@@ -320,18 +316,18 @@ public final class SeaTermsTest {
         x.wind(0, 8, 9);
         // 10 an hour for 6 hours, then 2 an hour for 30
         x.run(5);
-        lies("strength 5", x, 0, 7, 50);
+        Check.lies("strength 5", x, 0, 7, 50);
         x.run(2);
-        lies("strength 5, then 1", x, 0, 23, 2);
+        Check.lies("strength 5, then 1", x, 0, 23, 2);
         x.run(28);
-        lies("strength 1", x, 0, 23, 58);
+        Check.lies("strength 1", x, 0, 23, 58);
         x.run(1);
-        lies("a byte that is no wind", x, 0, 39, 0);
+        Check.lies("a byte that is no wind", x, 0, 39, 0);
         x.run(50);
-        lies("calm still", x, 0, 39, 0);
+        Check.lies("calm still", x, 0, 39, 0);
         x.wind(0, 39, 79);
         x.run(3);
-        lies("79 from the next hour on, into a byte below 0", x, 0, 55, 21);
+        Check.lies("79 from the next hour on, into a byte below 0", x, 0, 55, 21);
     }
 
     private static void restIsGone() {
@@ -339,62 +335,46 @@ public final class SeaTermsTest {
         TeaRace x = alone(3, 87, 0);
         Seas.blow(x, 0, 39);
         x.run(1);
-        lies("45 an hour", x, 0, 87, 45);
+        Check.lies("45 an hour", x, 0, 87, 45);
         x.run(1);
-        lies("90 of 60", x, 0, 71, 30);
+        Check.lies("90 of 60", x, 0, 71, 30);
         x.run(1);
-        lies("75 of 60", x, 0, 55, 15);
+        Check.lies("75 of 60", x, 0, 55, 15);
         x.run(1);
-        lies("60 of 60", x, 0, 39, 0);
+        Check.lies("60 of 60", x, 0, 39, 0);
         TeaRace y = alone(3, 87, 1);
         Seas.blow(y, 0, 49);
         y.run(2);
-        lies("90 of 85", y, 0, 72, 5);
-    }
-
-    /**
-     * A racer that has 80 of 85 gone south-west, when a wind of strength 9 rises everywhere, by which its way
-     * is east and its speed 45: 125 are enough for two cells.
-     */
-    private static TeaRace racerBeforeTwoMoves() {
-        TeaRace x = new TeaRace();
-        x.home(159, 0);
-        Seas.blow(x, 0, 18);
-        x.ship(3, 34, 0);
-        x.order(0, 0, 15, 0, 9, 9, 2);
-        x.order(0, 0, 15, 0, 9, 8, 5);
-        x.run(5);
-        Seas.blow(x, 0, 79);
-        return x;
+        Check.lies("90 of 85", y, 0, 72, 5);
     }
 
     private static void severalInAnHour() {
         says("(several times, if it is enough again;");
-        TeaRace x = racerBeforeTwoMoves();
-        lies("80 of 85", x, 0, 34, 80);
+        TeaRace x = Seas.racerBeforeTwoMoves(159);
+        Check.lies("80 of 85", x, 0, 34, 80);
         x.run(1);
-        lies("125 of 60", x, 0, 36, 5);
+        Check.lies("125 of 60", x, 0, 36, 5);
         Check.due("cells come to", x.mark(0, 3), 2);
-        TeaRace just = racerBeforeTwoMoves();
+        TeaRace just = Seas.racerBeforeTwoMoves(159);
         just.foul(0, 5);
         just.run(1);
-        lies("120 of 60", just, 0, 36, 0);
-        TeaRace less = racerBeforeTwoMoves();
+        Check.lies("120 of 60", just, 0, 36, 0);
+        TeaRace less = Seas.racerBeforeTwoMoves(159);
         less.foul(0, 6);
         less.run(1);
-        lies("119 of 60", less, 0, 35, 59);
-        TeaRace calm = racerBeforeTwoMoves();
+        Check.lies("119 of 60", less, 0, 35, 59);
+        TeaRace calm = Seas.racerBeforeTwoMoves(159);
         calm.wind(0, 34, 9);
         calm.run(1);
-        lies("36 by the wind of the cell left, none by that come to", calm, 0, 35, 56);
+        Check.lies("36 by the wind of the cell left, none by that come to", calm, 0, 35, 56);
     }
 
     private static void severalWithWaysOfCells() {
         says("with the WAY for that CELL).");
-        TeaRace x = racerBeforeTwoMoves();
+        TeaRace x = Seas.racerBeforeTwoMoves(159);
         x.wind(0, 35, 8);
         x.run(1);
-        lies("65 of the 85 needed in the second cell", x, 0, 35, 65);
+        Check.lies("65 of the 85 needed in the second cell", x, 0, 35, 65);
         Check.due("the second cell's way", x.told(0, 3), 5);
         TeaRace y = new TeaRace();
         y.home(159, 0);
@@ -406,7 +386,7 @@ public final class SeaTermsTest {
         y.run(5);
         Seas.blow(y, 0, 79);
         y.run(1);
-        lies("east, then south", y, 0, 51, 5);
+        Check.lies("east, then south", y, 0, 51, 5);
         Check.due("the way", y.told(0, 3), 4);
     }
 
@@ -418,12 +398,12 @@ public final class SeaTermsTest {
             x.land(87, true);
             int hours = way % 2 == 0 ? 8 : 11;
             x.run(hours - 1);
-            lies("before land", x, 0, 87, 8 * (hours - 1));
+            Check.lies("before land", x, 0, 87, 8 * (hours - 1));
             x.run(1);
-            lies("at land", x, 0, 87, 0);
+            Check.lies("at land", x, 0, 87, 0);
             x.land(NEXT_TO_87[way], false);
             x.run(hours);
-            lies("to a cell that is land no more", x, 0, NEXT_TO_87[way], way % 2 == 0 ? 4 : 3);
+            Check.lies("to a cell that is land no more", x, 0, NEXT_TO_87[way], way % 2 == 0 ? 4 : 3);
         }
     }
 
@@ -437,11 +417,11 @@ public final class SeaTermsTest {
                 TeaRace x = alone(2, cells[i], way);
                 int hours = way % 2 == 0 ? 8 : 11;
                 x.run(hours - 1);
-                lies("before the sea's end", x, 0, cells[i], 8 * (hours - 1));
+                Check.lies("before the sea's end", x, 0, cells[i], 8 * (hours - 1));
                 x.run(1);
-                lies("at the sea's end", x, 0, cells[i], 0);
+                Check.lies("at the sea's end", x, 0, cells[i], 0);
                 x.run(2);
-                lies("again", x, 0, cells[i], 16);
+                Check.lies("again", x, 0, cells[i], 16);
             }
         }
         TeaRace x = alone(3, 0, 0);
@@ -451,15 +431,15 @@ public final class SeaTermsTest {
     }
 
     private static void stopAfterMove() {
-        TeaRace x = racerBeforeTwoMoves();
+        TeaRace x = Seas.racerBeforeTwoMoves(159);
         x.land(36, true);
         x.run(1);
-        lies("the second move ends at land: no rest of it is gone", x, 0, 35, 0);
+        Check.lies("the second move ends at land: no rest of it is gone", x, 0, 35, 0);
         Check.due("cells come to", x.mark(0, 3), 1);
-        TeaRace y = racerBeforeTwoMoves();
+        TeaRace y = Seas.racerBeforeTwoMoves(159);
         y.land(35, true);
         y.run(1);
-        lies("the first move ends at land: 125 are no second one", y, 0, 34, 0);
+        Check.lies("the first move ends at land: 125 are no second one", y, 0, 34, 0);
     }
 
     private static void firstOrderThatFits() {
@@ -488,7 +468,8 @@ public final class SeaTermsTest {
                 x.order(0, s[0], s[1], s[2], s[3], 0, 4);
                 x.run(1);
                 boolean fits = cell % 16 >= s[0] && cell % 16 <= s[1] && cell / 16 >= s[2] && cell / 16 <= s[3];
-                Check.due("cell " + cell + " of " + s[0] + " .. " + s[1] + ", " + s[2] + " .. " + s[3], x.told(0, 3), fits ? 4 : 0);
+                String span = s[0] + " .. " + s[1] + ", " + s[2] + " .. " + s[3];
+                Check.due("cell " + cell + " of " + span, x.told(0, 3), fits ? 4 : 0);
             }
         }
     }
@@ -530,14 +511,14 @@ public final class SeaTermsTest {
         x.ship(2, 87, 0);
         Check.due("at first", x.told(0, 3), 0);
         x.run(8);
-        lies("without orders", x, 0, 71, 4);
+        Check.lies("without orders", x, 0, 71, 4);
         Check.due("without orders", x.told(0, 3), 0);
         x.order(0, 7, 7, 4, 4, 0, 2);
         x.run(7);
-        lies("out of the order's cell", x, 0, 72, 0);
+        Check.lies("out of the order's cell", x, 0, 72, 0);
         Check.due("the way that it has", x.told(0, 3), 2);
         x.run(8);
-        lies("on", x, 0, 73, 4);
+        Check.lies("on", x, 0, 73, 4);
         x.order(0, 0, 15, 0, 9, 1, 5);
         x.run(1);
         Check.due("no wind, the way that it has", x.told(0, 3), 2);
@@ -564,7 +545,7 @@ public final class SeaTermsTest {
             Check.due("no HOUR has begun", x.told(0, 3), hour == 0 ? 0 : 2);
             x.run(1);
             Check.due("as HOUR " + hour + " has begun", x.told(0, 3), 3);
-            lies("by the way just asked", x, 0, 34, 27);
+            Check.lies("by the way just asked", x, 0, 34, 27);
         }
         Check.due("an order alone asks no way", alone(0, 34, 2).told(0, 3), 0);
     }
@@ -579,15 +560,15 @@ public final class SeaTermsTest {
         x.run(7);
         Check.due("in its cell", x.told(0, 3), 2);
         x.run(1);
-        lies("come to the next cell", x, 0, 88, 4);
+        Check.lies("come to the next cell", x, 0, 88, 4);
         Check.due("in the hour in which it came to it", x.told(0, 3), 0);
         x.run(7);
-        lies("come to a third cell", x, 0, 72, 0);
+        Check.lies("come to a third cell", x, 0, 72, 0);
         Check.due("none fits there", x.told(0, 3), 0);
         TeaRace y = alone(2, 87, 2);
         y.land(88, true);
         y.run(8);
-        lies("stays", y, 0, 87, 0);
+        Check.lies("stays", y, 0, 87, 0);
     }
 
     private static void goneStays() {
@@ -600,17 +581,17 @@ public final class SeaTermsTest {
         x.order(0, 0, 15, 0, 9, 4, 3);
         x.order(0, 0, 15, 0, 9, 0, 2);
         x.run(5);
-        lies("east", x, 0, 87, 40);
+        Check.lies("east", x, 0, 87, 40);
         x.wind(0, 87, 34);
         x.run(5);
         Check.due("way", x.told(0, 3), 3);
-        lies("south-east", x, 0, 87, 80);
+        Check.lies("south-east", x, 0, 87, 80);
         x.foul(0, 9);
         x.run(3);
-        lies("too foul to go", x, 0, 87, 80);
+        Check.lies("too foul to go", x, 0, 87, 80);
         x.wind(0, 87, 35);
         x.run(1);
-        lies("80 are enough southward", x, 0, 103, 20);
+        Check.lies("80 are enough southward", x, 0, 103, 20);
         Check.due("way", x.told(0, 3), 2);
     }
 }

@@ -24,6 +24,33 @@ final class Seas {
         return ship;
     }
 
+    /** Steamers 1, 2, 3 .. cells from HOME with so many chests, all HOME; the gate opens at hour 7 each day. */
+    static TeaRace allHome(int... chests) {
+        TeaRace x = new TeaRace();
+        x.home(0, 7);
+        for (int i = 0; i < chests.length; i++) {
+            steamerEastOfHome(x, i + 1, chests[i]);
+        }
+        x.run(100);
+        return x;
+    }
+
+    /**
+     * A racer in cell 34 that has 80 of 85 gone south-west, when a wind of strength 9 rises everywhere, by which its
+     * way is east and its speed 45: 125 are enough for two cells.
+     */
+    static TeaRace racerBeforeTwoMoves(int home) {
+        TeaRace x = new TeaRace();
+        x.home(home, 0);
+        blow(x, 0, 18);
+        x.ship(3, 34, 0);
+        x.order(0, 0, 15, 0, 9, 9, 2);
+        x.order(0, 0, 15, 0, 9, 8, 5);
+        x.run(5);
+        blow(x, 0, 79);
+        return x;
+    }
+
     /** A steamer in cell 1 under order west, too foul to go before it is let go. */
     static int steamerAtAnchor(TeaRace x, int chests) {
         int ship = steamerEastOfHome(x, 1, chests);

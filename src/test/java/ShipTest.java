@@ -119,7 +119,8 @@ public final class ShipTest {
     }
 
     private static void told() {
-        Document.says(10, "Of a SHIP: 0 its KIND, 1 CELL, 2 GONE, 3 WAY, 4 HOUR at which it was HOME (NONE), 5 its ENTRY (NONE), 6 chests.");
+        Document.says(10, "Of a SHIP: 0 its KIND, 1 CELL, 2 GONE, 3 WAY, 4 HOUR at which it was HOME (NONE), 5 its ENTRY (NONE),"
+            + " 6 chests.");
         TeaRace x = new TeaRace();
         Seas.steamerEastOfHome(x, 2, 55);
         x.ship(3, 47, 20000);
