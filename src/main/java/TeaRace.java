@@ -808,30 +808,31 @@ public final class TeaRace {
     private static final class Passage {
         private static final int UNREACHED = MOST_PASSAGE + 1;
         private final int[] hoursTo = new int[CELLS];
-        private final int[] openCells = new int[CELLS];
-        private int openCount = 0;
+        private final boolean[] departed = new boolean[CELLS];
 
         int leastHours(Sea sea, Ship ship, int from, int to, int start) {
             if (outside(from, LAST_CELL) || outside(to, LAST_CELL)) {
                 return NONE;
             }
-            Arrays.fill(hoursTo, UNREACHED);
-            openCount = 0;
-            reach(from, 0);
-            for (int taken = 0; taken < CELLS && openCount > 0; taken++) {
-                int cell = takeEarliest();
-                if (cell == to) {
-                    return hoursTo[to];
+            for (int cell = 0; cell < CELLS; cell++) {
+                hoursTo[cell] = cell == from ? 0 : UNREACHED;
+                departed[cell] = false;
+            }
+            for (int taken = 0; taken < CELLS; taken++) {
+                int cell = earliestCell();
+                if (cell == NONE || cell == to) {
+                    break;
                 }
                 leave(sea, ship, cell, start);
             }
-            return NONE;
+            return hoursTo[to] == UNREACHED ? NONE : hoursTo[to];
         }
 
         private void leave(Sea sea, Ship ship, int cell, int start) {
             if (outside(cell, LAST_CELL)) {
                 return;
             }
+            departed[cell] = true;
             for (int way = 0; way < WAYS; way++) {
                 int next = sea.nextCell(cell, way);
                 if (next != NONE) {
@@ -860,30 +861,22 @@ public final class TeaRace {
         }
 
         private void reach(int cell, int hours) {
-            if (outside(cell, LAST_CELL) || hours >= hoursTo[cell]) {
-                return;
+            if (!outside(cell, LAST_CELL) && hours < hoursTo[cell]) {
+                hoursTo[cell] = hours;
             }
-            if (hoursTo[cell] == UNREACHED && openCount < CELLS) {
-                openCells[openCount] = cell;
-                openCount++;
-            }
-            hoursTo[cell] = hours;
         }
 
-        private int takeEarliest() {
-            if (openCount <= 0) {
-                return NONE;
-            }
-            int best = 0;
-            for (int i = 1; i < openCount; i++) {
-                if (hoursTo[openCells[i]] < hoursTo[openCells[best]]) {
-                    best = i;
+        /** Of the cells that are come to and not yet departed from, the one with the fewest hours; NONE if there is none. */
+        private int earliestCell() {
+            int best = NONE;
+            int fewest = UNREACHED;
+            for (int cell = 0; cell < CELLS; cell++) {
+                if (!departed[cell] && hoursTo[cell] < fewest) {
+                    best = cell;
+                    fewest = hoursTo[cell];
                 }
             }
-            int cell = openCells[best];
-            openCount--;
-            openCells[best] = openCells[openCount];
-            return cell;
+            return best;
         }
     }
 }

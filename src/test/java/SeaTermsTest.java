@@ -565,10 +565,13 @@ public final class SeaTermsTest {
         x.run(7);
         Check.lies("come to a third cell", x, 0, 72, 0);
         Check.due("none fits there", x.told(0, 3), 0);
-        TeaRace y = alone(2, 87, 2);
-        y.land(88, true);
+        TeaRace y = new TeaRace();
+        y.home(88, 0);
+        y.ship(2, 87, 0);
+        y.order(0, 7, 7, 5, 5, 0, 2);
+        y.order(0, 8, 8, 5, 5, 0, 4);
         y.run(8);
-        Check.lies("stays", y, 0, 87, 0);
+        Check.due("HOME is a cell that it comes to", y.told(0, 3), 4);
     }
 
     private static void goneStays() {
