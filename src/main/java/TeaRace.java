@@ -431,11 +431,6 @@ public final class TeaRace {
         return Math.floorMod(hour / HOURS_OF_MONTH, MONTHS);
     }
 
-    /** How many hours there are from one on until the next month: 1 at least. */
-    private static int hoursLeftOfMonth(int hour) {
-        return HOURS_OF_MONTH - Math.floorMod(hour, HOURS_OF_MONTH);
-    }
-
     /** The first hour from one on in which the dock is open. */
     private int entryFrom(int hour) {
         int sinceOpening = Math.floorMod(hour - gateHour, HOURS_OF_DAY);
@@ -444,26 +439,21 @@ public final class TeaRace {
 
     // ---- the going of a ship
 
-    private void sail(Ship ship, int end) {
-        // where no hour goes by none begins, so there is no stretch of hours, and no way is asked
-        for (int begin = hour; begin < end && !ship.isHome(); begin += hoursLeftOfMonth(begin)) {
-            sailInMonth(ship, begin, Math.min(end, begin + hoursLeftOfMonth(begin)));
-        }
-    }
-
     /**
-     * Within one month a cell's wind stays, and orders don't change in a run: asking at each hour's begin
-     * would tell the same way again, so it is asked only at the first hour and in each cell come to.
+     * Within one month a cell's wind stays, and orders don't change in a run: asking at each hour's begin would tell
+     * the same way again, so it is asked only as a run or a month begins and in each cell come to.
      */
-    private void sailInMonth(Ship ship, int begin, int end) {
-        int month = monthOf(begin);
-        ship.askWay(sea.windIn(month, ship.cell));
-        int speed = ship.speedIn(ship.way, sea.windIn(month, ship.cell));
-        for (int at = begin; at < end && !ship.isHome(); at++) {
+    private void sail(Ship ship, int end) {
+        int speed = 0;
+        for (int at = hour; at < end && !ship.isHome(); at++) {
+            if (at == hour || at % HOURS_OF_MONTH == 0) {
+                ship.askWay(sea.windIn(monthOf(at), ship.cell));
+                speed = ship.speedIn(ship.way, sea.windIn(monthOf(at), ship.cell));
+            }
             ship.gone += speed;
             if (ship.gone >= needOf(ship.way)) {
                 moveOn(ship, at);
-                speed = ship.speedIn(ship.way, sea.windIn(month, ship.cell));
+                speed = ship.speedIn(ship.way, sea.windIn(monthOf(at), ship.cell));
             }
         }
     }
@@ -845,13 +835,14 @@ public final class TeaRace {
         /** The hour at whose begin a ship that leaves a cell is in the next one; beyond the last one if it is not by then. */
         private static int comingHour(Sea sea, Ship ship, int cell, int way, int leaving, int last) {
             int left = needOf(way);
-            for (int at = leaving; at < last; at += hoursLeftOfMonth(at)) {
+            for (int months = leaving / HOURS_OF_MONTH; months <= last / HOURS_OF_MONTH; months++) {
+                int at = Math.max(leaving, months * HOURS_OF_MONTH);
+                int hours = (months + 1) * HOURS_OF_MONTH - at;
                 int speed = ship.speedIn(way, sea.windIn(monthOf(at), cell));
-                int goneInMonth = speed * hoursLeftOfMonth(at);
-                if (goneInMonth >= left) {
+                if (speed * hours >= left) {
                     return at + hoursFor(left, speed);
                 }
-                left -= goneInMonth;
+                left -= speed * hours;
             }
             return last + 1;
         }
